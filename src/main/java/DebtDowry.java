@@ -863,11 +863,7 @@ public final class DebtDowry {
             while (at < length && letters[at] == ' ') {
                 at++;
             }
-            return signHere();
-        }
-
-        private int signHere() {
-            return at >= 0 && at < length ? letters[at] : NONE;
+            return at < length ? letters[at] : NONE;
         }
 
         private void readSign(int due) {
@@ -879,17 +875,17 @@ public final class DebtDowry {
         }
 
         private int readNumber(int least, int most) {
-            int figure = nextSign();
+            int sign = nextSign();
             numberAt = at;
-            if (!isFigure(figure)) {
+            if (!isFigure(sign)) {
                 blame(1, at);
                 return 0;
             }
             int value = 0;
-            while (at < length && isFigure(signHere())) {
+            while (at < length && isFigure(letters[at])) {
                 // Beyond three figures it is a fault anyway, and must not overflow.
                 if (at - numberAt < MOST_FIGURES) {
-                    value = value * 10 + signHere() - '0';
+                    value = value * 10 + letters[at] - '0';
                 }
                 at++;
             }

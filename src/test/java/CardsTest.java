@@ -93,6 +93,8 @@ public final class CardsTest {
         Due.is("none is civil by any", still.lookAt(0, 1), NONE);
         Due.is("one of a hundred", still.lookAt(0, 2), 0);
         still.card(0, 2, 5, true);
+        Due.is("a single sum, least", still.had(0, 2, 1), 99);
+        Due.is("a single sum, most", still.had(0, 2, 2), 99);
         Due.is("one cannot be parted", still.lookAt(0, 2), NONE);
         still.card(0, 2, 6, false);
         Due.is("of none", still.lookAt(0, 2), NONE);
@@ -166,6 +168,9 @@ public final class CardsTest {
     private static void judged() {
         DebtDowry x = Due.townOf(TOWN);
         Due.is("an empty book", x.judge(), NONE);
+        x.write(0, 12);
+        Due.is("the very first", x.judge(), 0);
+        x.tear();
         x.write(0, 11);
         x.write(1, -1);
         x.write(2, 0);

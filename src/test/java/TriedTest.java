@@ -15,6 +15,7 @@ public final class TriedTest {
         planRefused();
         planKnown();
         planOfLikeOnes();
+        planOfTheMost();
         planByTrial();
         matchesKnown();
         matchesOfLikeOnes();
@@ -141,6 +142,17 @@ public final class TriedTest {
         Due.is("10, 11, 12 and a coin", z.plan(0, 0, 3, 0), 1);
         Due.is("9 stays 9, but it may be paid as well at last", z.plan(0, 0, 3, 1), 0);
         Due.is("of two quarters none", z.plan(0, 0, 2, 0), 0);
+    }
+
+    private static void planOfTheMost() {
+        // Only 769 becomes 999 by 30 of a hundred, so 230 are paid each time.
+        DebtDowry x = Due.townOf("i30 0;c0 999 999 1;g999;m769;");
+        for (int n = 8; n >= 1; n--) {
+            Due.is("plan(0, 0, " + n + ", 0)", x.plan(0, 0, n, 0), 230 * n);
+            Due.is("plan(0, 0, " + n + ", 1)", x.plan(0, 0, n, 1), 230);
+            Due.is("plan(1, 0, " + n + ", 0)", x.plan(1, 0, n, 0), 230 * (n - 1));
+            Due.is("plan(1, 0, " + n + ", 1)", x.plan(1, 0, n, 1), 0);
+        }
     }
 
     /** Against trying all payments of small sums, each one by one. */
