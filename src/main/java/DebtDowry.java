@@ -781,7 +781,8 @@ public final class DebtDowry {
             faultKind = 0;
             faultAt = NONE;
             at = 0;
-            if (length > 0) {
+            // Blanks may stand anywhere, so a text of blanks alone is an empty one: no town, and no fault.
+            if (nextSign() != NONE) {
                 terms.there = true;
                 readInterest();
                 readOthers();

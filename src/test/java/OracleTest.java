@@ -68,7 +68,7 @@ public final class OracleTest {
     }
 
     private static String spoiled(Random random, String good) {
-        StringBuilder text = new StringBuilder(good);
+        StringBuilder text = new StringBuilder(random.nextInt(30) == 0 ? " ".repeat(random.nextInt(5)) : good);
         String signs = "icgm0123456789,;  0019x";
         int spoils = random.nextInt(4);
         for (int i = 0; i < spoils && text.length() > 0; i++) {
@@ -430,7 +430,7 @@ public final class OracleTest {
                     if (!clause.isEmpty()) {
                         finish(w, clause, values);
                     }
-                    if (word.kind == '$' && w.there) {
+                    if (word.kind == '$') {
                         faultAt = -1;
                         return 0;
                     }
@@ -497,11 +497,7 @@ public final class OracleTest {
 
         int town() {
             World w = new World();
-            int kind = 0;
-            faultAt = -1;
-            if (text.length() > 0) {
-                kind = build(w, words());
-            }
+            int kind = build(w, words());
             text.setLength(0);
             if (kind > 0) {
                 return -10 - kind;

@@ -15,7 +15,7 @@ public final class TownTest {
         faultsOfKindThree();
         faultsOfKindFour();
         firstFaultThenLeast();
-        emptyText();
+        textsWithoutWords();
         townStartsAnew();
         faultLeavesAll();
         toldAnswers();
@@ -107,17 +107,16 @@ public final class TownTest {
         good("i0 0 ; c 0 1 1 1 ; m 999 ; g 0 ;", 2);
         good("i0 0;c0 1 1 1;c0 1 1 1;g0,1;m 2 , 3;", 2);
         good("i0 0;c0 1 1 1;g0;m0;g0;m0;g0;m0;g0;m0;", 8);
-        StringBuilder blanks = new StringBuilder("i0 0;");
-        while (blanks.length() < 240) {
-            blanks.append(' ');
-        }
-        good(blanks.toString(), 0);
+        good("i0 0;" + " ".repeat(235), 0);
+        good(" ".repeat(235) + "i0 0;", 0);
     }
 
     private static void faultsOfKindOne() {
         bad("x", 1, 0);
-        bad(" ", 1, 1);
-        bad("   ", 1, 3);
+        bad(" \t ", 1, 1);
+        bad("   ;", 1, 3);
+        bad(" ".repeat(239) + "i", 1, 240);
+        bad(" ".repeat(239) + "g", 1, 239);
         bad("c0 1 1 1;", 1, 0);
         bad("g0;", 1, 0);
         bad(" m0;", 1, 1);
@@ -207,25 +206,43 @@ public final class TownTest {
         bad("i0 i", 1, 3);
     }
 
-    private static void emptyText() {
+    private static void textsWithoutWords() {
+        noTownBy("");
+        noTownBy(" ");
+        noTownBy("   ");
+        noTownBy(" ".repeat(239));
+        noTownBy(" ".repeat(240));
+    }
+
+    private static void noTownBy(String text) {
+        String name = text.length() + " blanks: ";
+        DebtDowry fresh = new DebtDowry();
+        Due.is(name + "town() of a new object", Due.tell(fresh, text), 0);
+        Due.is(name + "fault() of a new object", fresh.fault(), NONE);
+        Due.is(name + "no town of a new object", fresh.told(0), 0);
+
         DebtDowry x = Due.townOf("i5 6;c7 1 2 3;g1;m1;");
         x.quarter(2);
         x.card(0, 0, 0, true);
         x.write(0, 0);
         x.keep(0);
+        x.wed(0, 1);
         x.seed(99);
         x.feed('x');
         x.town();
-        Due.is("a fault first", x.fault(), 0);
-        Due.is("town() of an empty text", x.town(), 0);
-        Due.is("its fault", x.fault(), NONE);
+        Due.is(name + "a fault first", x.fault(), 0);
+        Due.is(name + "town()", Due.tell(x, text), 0);
+        Due.is(name + "fault()", x.fault(), NONE);
         for (int what = 0; what <= 13; what++) {
-            Due.is("no town: told(" + what + ")", x.told(what), 0);
+            Due.is(name + "told(" + what + ")", x.told(what), 0);
         }
-        Due.is("no town: goBack(0)", x.goBack(0), NOT);
-        Due.is("no town: person(0, 0)", x.person(0, 0), UNKNOWN);
-        Due.is("no town: quarter(1)", x.quarter(1), NOT);
-        Due.is("no town: the seed stays", x.seed(1), 99);
+        Due.is(name + "goBack(0)", x.goBack(0), NOT);
+        Due.is(name + "person(0, 0)", x.person(0, 0), UNKNOWN);
+        Due.is(name + "creditor(0, 0)", x.creditor(0, 0), UNKNOWN);
+        Due.is(name + "quarter(1)", x.quarter(1), NOT);
+        Due.is(name + "undo(1)", x.undo(1), NOT);
+        Due.is(name + "the seed stays", x.seed(1), 99);
+        Due.is(name + "a town then", Due.tell(x, "i5 6;c7 1 2 3;g1;m1;"), 2);
     }
 
     private static void townStartsAnew() {
