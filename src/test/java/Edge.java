@@ -77,6 +77,10 @@ final class Edge {
         return x;
     }
 
+    static List<Supplier<DebtDowry>> states() {
+        return List.of(Edge::bare, Edge::noCreditors, Edge::noPersons, Edge::busy, Edge::full, Edge::rich);
+    }
+
     /** The call answers the refusal, and all that can be seen is then as without it. */
     static void refused(String call, Supplier<DebtDowry> made, ToIntFunction<DebtDowry> asked, int due) {
         DebtDowry x = made.get();
