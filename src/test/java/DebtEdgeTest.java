@@ -40,6 +40,7 @@ public final class DebtEdgeTest {
         halfOfTheMost();
         divorcedInsultsAreBoths();
         wedAgain();
+        deedsOfTheseTwoAlone();
         Due.end();
     }
 
@@ -250,10 +251,10 @@ public final class DebtEdgeTest {
     /** "less 1 for each who is SOUR": it may be below 0 */
     private static void standingBelowZero() {
         String creditors = "i0 0;c99 1 2 9;c99 1 2 8;c99 1 2 7;c99 1 2 6;";
-        int[][] sums = {{3, 3, 3, 3}, {3, 3, 3, 0}, {3, 0, 0, 0}, {0, 0, 0, 0}, {0, 0, 0, 2}, {3, 3, 3, 2}, {999, 999, 999, 999}};
+        String[] sums = {"3,3,3,3", "3,3,3,0", "3,0,0,0", "0,0,0,0", "0,0,0,2", "3,3,3,2", "999,999,999,999"};
         int[] due = {-4, -3, -1, 0, 6, 3, -4};
         for (int i = 0; i < due.length; i++) {
-            String owed = sums[i][0] + "," + sums[i][1] + "," + sums[i][2] + "," + sums[i][3];
+            String owed = sums[i];
             DebtDowry x = Due.townOf(creditors + "g" + owed + ";m0,0,0,0;");
             Due.is("standing by " + owed, x.person(0, 3), due[i]);
             Due.is("joined by " + owed, x.joined(0, 1), due[i] + 10);
@@ -537,5 +538,53 @@ public final class DebtEdgeTest {
         Due.is("to another", x.wed(0, 2), 13);
         Due.is("what both owe", x.owes(0, 0), 4 + 1);
         Due.is("her man", x.person(0, 1), 2);
+    }
+
+    private static int[] allOwed(DebtDowry x) {
+        int[] owed = new int[32];
+        for (int i = 0; i < owed.length; i++) {
+            owed[i] = x.owes(i / 4, i % 4);
+        }
+        return owed;
+    }
+
+    private static void areOwed(String deed, DebtDowry x, int[] due) {
+        int[] owed = allOwed(x);
+        for (int i = 0; i < due.length; i++) {
+            Due.is(deed + ": owes(" + i / 4 + ", " + i % 4 + ")", owed[i], due[i]);
+        }
+    }
+
+    /** What others owe, or to others, stays as it is by a deed: in the fullest town, from the first to the last. */
+    private static void deedsOfTheseTwoAlone() {
+        int[][] pairs = {{0, 1}, {6, 7}, {2, 5}, {4, 3}};
+        for (int[] pair : pairs) {
+            int girl = pair[0];
+            int man = pair[1];
+            DebtDowry x = Due.townOf("i0 100;c99 1 99 1;c99 1 99 1;c99 1 99 1;c99 1 99 1;g1,2,3,4;m5,6,7,8;"
+                + "g9,10,11,12;m13,14,15,16;g17,18,19,20;m21,22,23,24;g25,26,27,28;m29,30,31,32;");
+            int[] due = allOwed(x);
+            x.borrow(girl, 3, 7);
+            due[girl * 4 + 3] += 7;
+            x.pay(man, 0, 2);
+            due[man * 4] -= 2;
+            areOwed("borrowed by " + girl + ", paid by " + man, x, due);
+            x.wed(girl, man);
+            for (int c = 0; c < 4; c++) {
+                due[girl * 4 + c] += due[man * 4 + c];
+                due[man * 4 + c] = 0;
+            }
+            areOwed("wed: " + girl + " and " + man, x, due);
+            x.divorce(girl);
+            for (int c = 0; c < 4; c++) {
+                due[man * 4 + c] = due[girl * 4 + c] / 2;
+                due[girl * 4 + c] -= due[man * 4 + c];
+            }
+            areOwed("divorced: " + girl + " and " + man, x, due);
+            int[] purses = {101, 99, 99, 92};
+            for (int c = 0; c < 4; c++) {
+                Due.is("the purse of " + c, x.creditor(c, 0), purses[c]);
+            }
+        }
     }
 }

@@ -7,8 +7,9 @@ import java.util.TreeMap;
 
 /** Long runs of calls by a fixed seed, each answer against a slow and plain model of the document. */
 public final class OracleTest {
-    private static final int RUNS = 800;
-    private static final int CALLS = 512;
+    private static final int RUNS = 900;
+    /** Of 512 that the document promises anything about, 54 are left to look at all in the end. */
+    private static final int CALLS = 458;
 
     public static void main(String[] args) {
         Random random = new Random(20261118);
@@ -90,13 +91,14 @@ public final class OracleTest {
         Plain y = new Plain();
         int left = CALLS;
         boolean first = true;
-        while (left > 0) {
+        while (left > 1) {
             if (first || random.nextInt(150) == 0) {
                 String text = random.nextInt(12) == 0 ? spoiled(random, goodText(random)) : goodText(random);
-                for (int i = 0; i < text.length() && left > 1; i++, left--) {
+                for (int i = 0; i < text.length() && left > 2; i++, left--) {
                     Due.is(run + ": feed", x.feed(text.charAt(i)), y.feed(text.charAt(i)));
                 }
                 Due.is(run + ": town of " + text, x.town(), y.town());
+                left--;
                 first = random.nextInt(20) == 0;
             }
             left--;

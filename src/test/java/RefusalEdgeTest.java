@@ -189,7 +189,8 @@ public final class RefusalEdgeTest {
 
     /** Promise 3: "-10 less the number of its FAULT (all is as it was)" */
     private static void townIsRefused() {
-        String[] texts = {"x", "i31 0;", "i0 0;i", "i0 0;c9 5 4 1;", "i0 0;c9 1 2 3;c9 1 2 3;c9 1 2 3;g1,1,1;m2,2,2;g3,3,3;x"};
+        String[] texts = {"x", "i31 0;", "i0 0;i", "i0 0;c9 5 4 1;",
+            "i0 0;c9 1 2 3;c9 1 2 3;c9 1 2 3;g1,1,1;m2,2,2;g3,3,3;x"};
         int[] due = {-11, -12, -13, -14, -11};
         for (int i = 0; i < texts.length; i++) {
             String text = texts[i];
@@ -231,11 +232,17 @@ public final class RefusalEdgeTest {
             busy("person(0, " + what + ")", x -> x.person(0, what), OUTSIDE);
             busy("person(4, " + what + "): UNKNOWN first", x -> x.person(4, what), UNKNOWN);
         }
+        int[][] creditors = {{111, 10, 50, 4, 4, 2}, {30, 20, 40, 7, 0, 0}};
+        int[][] persons = {{1, NONE, 11, 0, 1}, {0, NONE, 66, -1, 0}, {1, 3, 11, 4, 0}, {0, 2, 0, 0, 0}};
         for (int what = 0; what <= 5; what++) {
-            Due.isTrue("creditor(1, " + what + ")", Edge.busy().creditor(1, what) >= 0);
+            for (int c = 0; c < creditors.length; c++) {
+                Due.is("creditor(" + c + ", " + what + ")", Edge.busy().creditor(c, what), creditors[c][what]);
+            }
         }
         for (int what = 0; what <= 4; what++) {
-            Due.isTrue("person(3, " + what + ")", Edge.busy().person(3, what) >= NONE);
+            for (int p = 0; p < persons.length; p++) {
+                Due.is("person(" + p + ", " + what + ")", Edge.busy().person(p, what), persons[p][what]);
+            }
         }
     }
 

@@ -280,10 +280,13 @@ public final class TextEdgeTest {
         }
         DebtDowry x = Due.townOf("i07 008;c090 012 340 005;g056;");
         int[] due = {7, 8, 90, 12, 340, 5, 56};
-        int[] got = {x.told(1), x.told(2), x.creditor(0, 0), x.creditor(0, 1), x.creditor(0, 2), x.creditor(0, 3), x.owes(0, 0)};
-        for (int i = 0; i < due.length; i++) {
-            Due.is("number " + i + " with zeros ahead", got[i], due[i]);
+        for (int i = 0; i < 2; i++) {
+            Due.is("told(" + (i + 1) + ") with zeros ahead", x.told(i + 1), due[i]);
         }
+        for (int what = 0; what < 4; what++) {
+            Due.is("creditor(0, " + what + ") with zeros ahead", x.creditor(0, what), due[2 + what]);
+        }
+        Due.is("owes(0, 0) with zeros ahead", x.owes(0, 0), due[6]);
     }
 
     /** "a word is one letter" */
@@ -484,6 +487,14 @@ public final class TextEdgeTest {
             Due.is("fault of " + blanks + " blanks", x.fault(), NONE);
             Due.is("no town by " + blanks + " blanks", x.told(0), 0);
             Due.is("no quarters by " + blanks + " blanks", x.quarter(1), DebtDowry.NOT);
+            DebtDowry again = Edge.busy();
+            again.town();
+            again.seed(0);
+            Due.is("town of " + blanks + " blanks behind another", Due.tell(again, " ".repeat(blanks)), 0);
+            for (int what = 0; what <= 13; what++) {
+                Due.is("told(" + what + ") by " + blanks + " blanks behind another", again.told(what), 0);
+            }
+            Edge.isAs("what is left behind " + blanks + " blanks", again, new DebtDowry());
         }
     }
 

@@ -296,6 +296,11 @@ public final class TriedEdgeTest {
         Due.is("in three", x.plan(0, 0, 3, 0), 1);
         Due.is("not at first", x.plan(0, 0, 3, 1), 0);
         Due.is("one who must at once", x.plan(1, 0, 1, 1), 1);
+        // Nine stays nine, so for longer the coin is best paid at first; 11 and 12 would grow again.
+        for (int n = 4; n <= 8; n++) {
+            Due.is("how much in " + n, x.plan(0, 0, n, 0), 1);
+            Due.is("at first in " + n, x.plan(0, 0, n, 1), 1);
+        }
         DebtDowry y = Due.townOf("i10 0;c0 10 50 4;g60;");
         Due.is("14 and 4, or 18", y.plan(0, 0, 2, 0), 18);
         Due.is("14 at first", y.plan(0, 0, 2, 1), 14);
@@ -306,8 +311,10 @@ public final class TriedEdgeTest {
         Due.is("from 9999 to 769", x.plan(0, 0, 1, 0), 9230);
         Due.is("at first", x.plan(0, 0, 1, 1), 9230);
         DebtDowry high = Due.townOf("i30 0;c0 999 999 9;g999;");
-        Due.is("from 999 to 999 by 769", high.plan(0, 0, 8, 0), 8 * 230);
-        Due.is("230 at first", high.plan(0, 0, 8, 1), 230);
+        for (int n = 8; n >= 1; n--) {
+            Due.is("from 999 to 999 by 769 in " + n, high.plan(0, 0, n, 0), n * 230);
+            Due.is("230 at first in " + n, high.plan(0, 0, n, 1), 230);
+        }
     }
 
     /** "NONE (also of one who FAILED)" */
@@ -342,6 +349,14 @@ public final class TriedEdgeTest {
         Due.is("as sour as she is", below.matches(NONE), 0);
         DebtDowry above = Due.townOf("i0 0;c99 10 20 1;c99 10 20 1;g21,5;m0,5;");
         Due.is("joined is 0, hers -1, his 0", above.matches(NONE), 0);
+        DebtDowry insulted = Due.townOf("i0 0;c99 1 2 1;c99 1 2 1;c99 1 2 1;g9,9,9;m9,9,9;");
+        insulted.pay(0, 2, 1);
+        insulted.pay(1, 0, 1);
+        Due.is("joined is below 0", insulted.joined(0, 1), 9);
+        Due.is("hers is less", insulted.person(0, 3), -2);
+        Due.is("his is less", insulted.person(1, 3), -2);
+        Due.is("so they would rather", insulted.matches(NONE), 1);
+        Due.is("he is her man", insulted.matches(0), 1);
     }
 
     /** "the one of the greatest JOINED" */
@@ -510,7 +525,13 @@ public final class TriedEdgeTest {
         Due.is("an insult", x.credit(0, 1), NONE);
         Due.is("not of the other", x.credit(0, 0), 5);
         x.wed(0, 1);
-        Due.is("a man who is wed", x.credit(1, 0), NONE);
+        Due.is("a man who is wed, and a small purse", x.credit(1, 0), NONE);
+        Due.is("a man who is wed, and a great purse", x.credit(1, 1), NONE);
+        DebtDowry coin = Due.townOf("i0 0;c1 1 1 4;g0;m0;");
+        Due.is("a coin", coin.credit(1, 0), 1);
+        coin.wed(0, 1);
+        Due.is("a coin for a man who is wed", coin.credit(1, 0), NONE);
+        Due.is("a coin for his wife", coin.credit(0, 0), 1);
         DebtDowry y = Due.townOf("i0 0;c5 10 20 4;c99 10 20 4;g10,15;m21,15;");
         y.quarter(1);
         Due.is("he failed", y.told(9), 1);
