@@ -495,6 +495,11 @@ public final class TextEdgeTest {
                 Due.is("told(" + what + ") by " + blanks + " blanks behind another", again.told(what), 0);
             }
             Edge.isAs("what is left behind " + blanks + " blanks", again, new DebtDowry());
+            DebtDowry told = Due.townOf("i5 6;c7 8 9 1;g2;");
+            Due.is("town of " + blanks + " blanks at once behind a good one", Due.tell(told, " ".repeat(blanks)), 0);
+            for (int what = 0; what <= 13; what++) {
+                Due.is("told(" + what + ") by " + blanks + " blanks at once behind a good one", told.told(what), 0);
+            }
         }
     }
 
