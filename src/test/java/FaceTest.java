@@ -62,6 +62,8 @@ public final class FaceTest {
                 Due.isTrue(m + " bears no public name", !publicNames.contains(m.getName()));
             }
             Due.isTrue(inside + " is static", Modifier.isStatic(inside.getModifiers()));
+            int seen = inside.getModifiers() & (Modifier.PUBLIC | Modifier.PROTECTED);
+            Due.is(inside + " is seen from outside", seen, 0);
         }
     }
 

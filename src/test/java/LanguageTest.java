@@ -1,10 +1,13 @@
 import java.io.IOException;
+import java.lang.reflect.Field;
+import java.lang.reflect.Modifier;
 import java.nio.file.Files;
 import java.nio.file.Path;
+import java.util.Arrays;
 import java.util.regex.Matcher;
 import java.util.regex.Pattern;
 
-/** Rules of LANGUAGE.md that can be seen in the source; its path is the first argument. */
+/** Rules of LANGUAGE.md that can be seen in the source, whose path is the first argument, and in the class. */
 public final class LanguageTest {
     private static final String[] RULED_OUT = {
         "\\bthrow\\b", "\\bthrows\\b", "\\btry\\b", "\\bcatch\\b", "\\bfinally\\b", "\\bsynchronized\\b",
@@ -13,7 +16,7 @@ public final class LanguageTest {
         "\\bhashCode\\b", "\\btoString\\b", "\\bnative\\b", "\\bvolatile\\b"
     };
     private static final Pattern METHOD =
-        Pattern.compile("^( +)(?:(?:public|private|static|final) )*[\\w\\[\\]]+(?: \\w+)?\\(([^)]*)\\) \\{$");
+        Pattern.compile("^( +)(?:(?:public|private|static|final) )*[\\w\\[\\]]+( \\w+)?\\(([^)]*)\\) \\{$");
 
     public static void main(String[] args) throws IOException {
         String source = Files.readString(Path.of(args[0]));
@@ -26,6 +29,7 @@ public final class LanguageTest {
         }
         Due.isTrue("at most twelve classes", count("\\bclass \\w+", bare) <= 12);
         methodsAreSmall(bare);
+        classesAreSmall();
         Due.end();
     }
 
@@ -52,8 +56,30 @@ public final class LanguageTest {
                 end++;
             }
             Due.isTrue(lines[i] + " stays under sixty lines", end - i < 60);
-            Due.isTrue(lines[i] + " takes at most seven parameters", m.group(2).split(",").length <= 7);
+            Due.isTrue(lines[i] + " takes at most seven parameters", m.group(3).split(",").length <= 7);
+            String body = String.join("\n", Arrays.copyOfRange(lines, i, end));
+            // What a constructor makes is made once; all calls of a run share one room.
+            boolean constructor = m.group(2) == null;
+            Due.isTrue(lines[i] + " makes nothing", constructor || !Pattern.compile("\\bnew\\b").matcher(body).find());
         }
         Due.isTrue("methods were seen", seen > 32);
+    }
+
+    private static void classesAreSmall() {
+        fieldsOf(DebtDowry.class);
+        for (Class<?> inside : DebtDowry.class.getDeclaredClasses()) {
+            fieldsOf(inside);
+        }
+    }
+
+    private static void fieldsOf(Class<?> one) {
+        int fields = 0;
+        for (Field f : one.getDeclaredFields()) {
+            boolean fixed = Modifier.isStatic(f.getModifiers());
+            fields += fixed ? 0 : 1;
+            Due.isTrue(f + " is a constant number", !fixed || f.getType() == int.class);
+            Due.isTrue(f + " is final, if static", !fixed || Modifier.isFinal(f.getModifiers()));
+        }
+        Due.isTrue(one + " has at most twenty fields", fields <= 20);
     }
 }
