@@ -20,7 +20,7 @@ public final class ReadmeTest {
     private static final Pattern BLOCK = Pattern.compile("(?ms)^```java\n(.*?)^```$");
     private static final Pattern SHOWN = Pattern.compile("^(\\S.*\\));\\s+// (-?\\d+|[A-Z]+)(?:: .*)?$");
     private static final Pattern CONSTANT = Pattern.compile("(?m)^\\| `([A-Z]+)` *\\| (-\\d+) *\\|");
-    private static final Pattern FILE = Pattern.compile("(?:\\.\\./shared|src|\\.ci)/[\\w./]*\\w");
+    private static final Pattern FILE = Pattern.compile("(?<![\\w/])(?:src|\\.ci)/[\\w./]*\\w");
 
     public static void main(String[] args) throws IOException, ReflectiveOperationException {
         String page = Files.readString(README);
